@@ -551,13 +551,10 @@ public final class RecordsOffice {
         }
 
         static int monthOf(int day) {
-            // Guessed as if all years had 366 days and all months 31: up to the last fiscal year's end, what that
-            // leaves out adds up to less than a year and less than a month, so each guess is right or one too low.
-            int year = day / 366;
-            if (firstOf(12 * year + 12) <= day) {
-                year++;
-            }
-            int month = 12 * year + (day - firstOf(12 * year)) / 31;
+            // With 366 days to each year the year is right or, for all days that can come up, one too low; with 31 to
+            // each month two years' months come out a fortnight too late at most: so is the month.
+            int month = day / 366 * 12;
+            month += (day - firstOf(month)) / 31;
             return firstOf(month + 1) <= day ? month + 1 : month;
         }
 

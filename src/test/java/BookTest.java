@@ -20,6 +20,7 @@ public final class BookTest {
         spoilChangesNothingElse();
         fourHundredAtMost();
         everyCallNeedsRoom();
+        everyCallTakesTheLastRoom();
         carryNeedsRoomForAll();
         check.end();
     }
@@ -297,6 +298,38 @@ public final class BookTest {
         check.index(x, () -> x.approve(0, 8));
         check.index(x, () -> x.strike(0, 3));
         check.argument(x, () -> x.carry(0, 4, 99));
+    }
+
+    interface Writing {
+        void on(RecordsOffice x);
+    }
+
+    private static void everyCallTakesTheLastRoom() {
+        Writing[] all = {
+            x -> x.version(0, 0, 0, 0, false, 0),
+            x -> x.open(1, 0),
+            x -> x.close(0, 100),
+            x -> x.left(0, 100),
+            x -> x.file(0, 1, 1, -1, -1, -1, 100),
+            x -> x.hold(2, -1, -1, -1, 0, 0),
+            x -> x.lift(1),
+            x -> x.draw(0, 100),
+            x -> x.approve(0, 3),
+            x -> x.strike(0, 0),
+            x -> x.carry(1, 4, 100),
+        };
+        for (int i = 0; i < all.length; i++) {
+            RecordsOffice x = Offices.withApprovedList(1);
+            x.draw(0, 100);
+            x.approve(1, 1);
+            x.approve(1, 2);
+            x.strike(1, 0);
+            x.hold(1, -1, -1, -1, 50, 50);
+            Offices.fillBook(x, 399);
+            all[i].on(x);
+            check.is(400, x.count(2));
+            check.is(i == 10 ? 12 : i + 1, x.act(399, 0));
+        }
     }
 
     private static void carryNeedsRoomForAll() {
