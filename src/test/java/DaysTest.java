@@ -11,8 +11,6 @@ public final class DaysTest {
     public static void main(String[] args) {
         everyDayAgainstTheLibrary();
         everyTermFromEndsOfMonths();
-        namedDays();
-        wrongNumbers();
         fiscalYearsAgainstTheLibrary();
         check.end();
     }
@@ -46,26 +44,6 @@ public final class DaysTest {
             office = new RecordsOffice();
         }
         check.is(dayOf(FIRST.plusDays(day).plusMonths(years * 12 + months)), office.later(day, years, months));
-    }
-
-    private static void namedDays() {
-        office = new RecordsOffice();
-        check.is(58, office.later(30, 0, 1));
-        check.is(dayOf(LocalDate.of(2001, 2, 28)), office.later(dayOf(LocalDate.of(2000, 2, 29)), 1, 0));
-        check.is(dayOf(LocalDate.of(2100, 2, 28)), office.later(dayOf(LocalDate.of(2000, 2, 29)), 100, 0));
-        check.is(dayOf(LocalDate.of(2004, 2, 29)), office.later(dayOf(LocalDate.of(2000, 2, 29)), 4, 0));
-        check.is(120000, office.later(120000, 0, 0));
-    }
-
-    private static void wrongNumbers() {
-        check.argument(office, () -> office.later(-1, 0, 0));
-        check.argument(office, () -> office.later(120001, 0, 0));
-        check.argument(office, () -> office.later(0, -1, 0));
-        check.argument(office, () -> office.later(0, 101, 0));
-        check.argument(office, () -> office.later(0, 0, -1));
-        check.argument(office, () -> office.later(0, 0, 12));
-        check.argument(office, () -> office.later(Integer.MAX_VALUE, 0, 0));
-        check.argument(office, () -> office.later(Integer.MIN_VALUE, 0, 0));
     }
 
     private static void fiscalYearsAgainstTheLibrary() {

@@ -4,11 +4,8 @@ public final class FoldersTest {
 
     public static void main(String[] args) {
         opens();
-        openRefusals();
         closes();
-        closeRefusals();
         leaves();
-        leftRefusals();
         dueByClosing();
         dueByLeaving();
         check.end();
@@ -26,45 +23,15 @@ public final class FoldersTest {
         check.is(0, x.count(3));
     }
 
-    private static void openRefusals() {
-        RecordsOffice x = new RecordsOffice();
-        x.version(0, 0, 0, 0, false, 0);
-        x.open(0, 0);
-        check.index(x, () -> x.open(-1, 0));
-        check.index(x, () -> x.open(16, 0));
-        check.index(x, () -> x.open(1, -1));
-        check.index(x, () -> x.open(1, 8));
-        check.index(x, () -> x.open(0, 8));
-        check.state(x, () -> x.open(0, 0));
-        check.state(x, () -> x.open(1, 1));
-        x.close(0, 5);
-        check.state(x, () -> x.open(0, 0));
-    }
-
     private static void closes() {
         RecordsOffice x = Offices.withRecords(3);
         x.close(0, 2);
         check.same("3 0 2 0", Offices.lastAct(x));
-        check.state(x, () -> x.file(0, 1, 1, -1, -1, -1, 5));
+        check.state(() -> x.file(0, 1, 1, -1, -1, -1, 5));
         x.version(1, 0, 0, 0, false, 0);
         x.open(1, 1);
         x.close(1, 120000);
         check.is(120000, x.count(3));
-    }
-
-    private static void closeRefusals() {
-        RecordsOffice x = Offices.withRecords(3);
-        check.index(x, () -> x.close(-1, 5));
-        check.index(x, () -> x.close(16, 5));
-        check.index(x, () -> x.close(1, 5));
-        check.index(x, () -> x.close(1, -1));
-        check.argument(x, () -> x.close(0, 1));
-        check.argument(x, () -> x.close(0, -1));
-        check.argument(x, () -> x.close(0, 120001));
-        x.close(0, 7);
-        check.state(x, () -> x.close(0, 7));
-        check.state(x, () -> x.close(0, 8));
-        check.argument(x, () -> x.close(0, 6));
     }
 
     private static void leaves() {
@@ -78,21 +45,6 @@ public final class FoldersTest {
         x.close(1, 7);
         x.left(1, 9);
         check.is(9, x.count(3));
-    }
-
-    private static void leftRefusals() {
-        RecordsOffice x = Offices.withRecords(3);
-        check.index(x, () -> x.left(-1, 5));
-        check.index(x, () -> x.left(16, 5));
-        check.index(x, () -> x.left(1, 5));
-        check.index(x, () -> x.left(1, 120001));
-        check.argument(x, () -> x.left(0, 1));
-        check.argument(x, () -> x.left(0, -1));
-        check.argument(x, () -> x.left(0, 120001));
-        x.left(0, 7);
-        check.state(x, () -> x.left(0, 7));
-        check.state(x, () -> x.left(0, 8));
-        check.argument(x, () -> x.left(0, 6));
     }
 
     private static void dueByClosing() {

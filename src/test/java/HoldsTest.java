@@ -4,9 +4,6 @@ public final class HoldsTest {
 
     public static void main(String[] args) {
         holdActs();
-        holdRefusals();
-        holdRefusalsInOrder();
-        liftRefusals();
         placedAgainWithOtherTerms();
         coversByFolder();
         coversByClass();
@@ -14,9 +11,6 @@ public final class HoldsTest {
         coversByDays();
         coversByAllTogether();
         coversWhatComesLater();
-        countsEachHold();
-        coversDestroyedOnes();
-        coveredRefusals();
         check.end();
     }
 
@@ -53,45 +47,6 @@ public final class HoldsTest {
         x.lift(7);
         check.same("7 7 0 0", Offices.lastAct(x));
         check.is(0, x.count(3));
-    }
-
-    private static void holdRefusals() {
-        RecordsOffice x = new RecordsOffice();
-        check.index(x, () -> x.hold(-1, 0, 0, 0, 0, 0));
-        check.index(x, () -> x.hold(8, 0, 0, 0, 0, 0));
-        check.index(x, () -> x.hold(0, -2, 0, 0, 0, 0));
-        check.index(x, () -> x.hold(0, 16, 0, 0, 0, 0));
-        check.index(x, () -> x.hold(0, 0, -2, 0, 0, 0));
-        check.index(x, () -> x.hold(0, 0, 8, 0, 0, 0));
-        check.argument(x, () -> x.hold(0, 0, 0, -2, 0, 0));
-        check.argument(x, () -> x.hold(0, 0, 0, 100, 0, 0));
-        check.argument(x, () -> x.hold(0, 0, 0, 0, -1, 0));
-        check.argument(x, () -> x.hold(0, 0, 0, 0, 0, 120001));
-        check.argument(x, () -> x.hold(0, 0, 0, 0, 120001, 120001));
-        check.argument(x, () -> x.hold(0, 0, 0, 0, 5, 4));
-        x.hold(0, 0, 0, 0, 5, 5);
-        check.state(x, () -> x.hold(0, 0, 0, 0, 5, 5));
-        check.state(x, () -> x.hold(0, 1, 1, 1, 6, 7));
-    }
-
-    private static void holdRefusalsInOrder() {
-        RecordsOffice x = new RecordsOffice();
-        x.hold(0, -1, -1, -1, 0, 0);
-        check.index(x, () -> x.hold(0, 16, 0, -2, 5, 4));
-        check.index(x, () -> x.hold(0, 0, 8, 100, 5, 4));
-        check.argument(x, () -> x.hold(0, 0, 0, 100, 0, 0));
-        check.argument(x, () -> x.hold(0, 0, 0, 0, 5, 4));
-    }
-
-    private static void liftRefusals() {
-        RecordsOffice x = new RecordsOffice();
-        check.index(x, () -> x.lift(-1));
-        check.index(x, () -> x.lift(8));
-        check.state(x, () -> x.lift(0));
-        x.hold(0, -1, -1, -1, 0, 0);
-        check.state(x, () -> x.lift(1));
-        x.lift(0);
-        check.state(x, () -> x.lift(0));
     }
 
     private static void placedAgainWithOtherTerms() {
@@ -166,29 +121,5 @@ public final class HoldsTest {
         x.file(5, 1, 1, 50, -1, -1, 50);
         x.file(5, 1, 1, 50, -1, -1, 51);
         check.same("00010010", covered(x));
-    }
-
-    private static void countsEachHold() {
-        RecordsOffice x = threeFolders();
-        for (int i = 0; i < 8; i++) {
-            x.hold(i, -1, -1, -1, 0, 120000);
-            check.is(i + 1, x.covered(0));
-        }
-        x.lift(4);
-        check.same("777", covered(x));
-    }
-
-    private static void coversDestroyedOnes() {
-        RecordsOffice x = Offices.withApprovedList(2);
-        x.carry(0, 4, 100);
-        check.is(0, x.covered(0));
-        x.hold(0, -1, -1, -1, 0, 0);
-        check.same("10", covered(x));
-    }
-
-    private static void coveredRefusals() {
-        RecordsOffice x = threeFolders();
-        check.index(x, () -> x.covered(-1));
-        check.index(x, () -> x.covered(3));
     }
 }

@@ -34,13 +34,45 @@ final class Offices {
         return x;
     }
 
-    /** Fills the book with holds placed and lifted until it has so many acts. */
+    /**
+     * All is on day 0: folder 0 of class 0 has a record, due on that day, which is on list 0; officer 0 may draw up and
+     * carry out, 1, 2 and 3 may approve, and 1 and 2 have approved the list.
+     */
+    static RecordsOffice onDayZero() {
+        RecordsOffice x = withRecords(1);
+        x.officer(0, 5);
+        x.officer(1, 2);
+        x.officer(2, 2);
+        x.officer(3, 2);
+        x.draw(0, 0);
+        x.approve(0, 1);
+        x.approve(0, 2);
+        return x;
+    }
+
+    /** Class 0 with an event and a term of no length, and folder 0 of it. */
+    static RecordsOffice withEvent(int event) {
+        RecordsOffice x = new RecordsOffice();
+        x.version(0, event, 0, 0, false, 0);
+        x.open(0, 0);
+        return x;
+    }
+
+    static int fileOn(RecordsOffice x, int folder, int day) {
+        return x.file(folder, 1, 1, -1, -1, -1, day);
+    }
+
+    /** Fills the book with holds placed and lifted until it has so many acts; no record is covered by them. */
     static void fillBook(RecordsOffice x, int acts) {
-        while (x.count(2) < acts) {
-            x.hold(7, 15, 7, 99, 120000, 120000);
-            if (x.count(2) < acts) {
+        boolean placed = false;
+        // The acts are counted here, not asked for: an object is used for 512 calls at most.
+        for (int i = x.count(2); i < acts; i++) {
+            if (placed) {
                 x.lift(7);
+            } else {
+                x.hold(7, 15, 7, 99, 120000, 120000);
             }
+            placed = !placed;
         }
     }
 

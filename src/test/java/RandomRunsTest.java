@@ -1,9 +1,9 @@
 import java.util.Random;
 
-/** Runs of 512 calls, from fixed seeds: each answer and each exception is the one that PlainOffice gives. */
+/** Runs of 512 calls (the last one asks what is broken), from fixed seeds: each answer and each exception is the one that PlainOffice gives. */
 public final class RandomRunsTest {
     private static final int RUNS = 3000;
-    private static final int CALLS = 512;
+    private static final int CALLS = 511;
     private static final int KINDS = 25;
     private static final Check check = new Check();
 

