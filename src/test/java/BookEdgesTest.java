@@ -37,6 +37,7 @@ public final class BookEdgesTest {
         edges.sentence("begin with that of the act before (0 for the first one)", BookEdgesTest::linkOfTheFirst);
         edges.sentence("(for kinds 5 and 11) the record's DIGEST, in turn", BookEdgesTest::linksWithDigests);
         edges.sentence("x becomes (x exclusive-or it) * 7046029254386353131", BookEdgesTest::linksWrapAround);
+        edges.sentence("x exclusive-or x shifted down by 29 without sign", BookEdgesTest::shiftedWithoutSign);
         edges.sentence("Every call that would write more acts than there is room for is refused as a whole.",
                 BookEdgesTest::refusedAsAWhole);
         edges.sentence("or there is no room (also in the book)", BookEdgesTest::noRoomIsLookedAtLast);
@@ -192,6 +193,18 @@ public final class BookEdgesTest {
             link = Links.behind(link, 7, 7, 0, 0);
         }
         edges.is(link, full.link(399));
+    }
+
+    private static void shiftedWithoutSign() {
+        long told = Links.behind(FOLDER.make().link(1), 5, 0, 0, 0);
+        long[][] productsAndLinks = {
+            {0, 0}, {1, 1}, {1L << 29, (1L << 29) + 1}, {-1, 0xFFFFFFF800000000L},
+            {Long.MIN_VALUE, 0x8000000400000000L}, {Long.MAX_VALUE, 0x7FFFFFFC00000000L},
+        };
+        for (long[] each : productsAndLinks) {
+            long digest = told ^ Links.beforeProduct(each[0]);
+            edges.gives(each[1], FOLDER.then(x -> x.file(0, 1, digest, -1, -1, -1, 0)), x -> x.link(2));
+        }
     }
 
     private static void refusedAsAWhole() {

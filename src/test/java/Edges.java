@@ -11,6 +11,7 @@ final class Edges {
 
     private final Check check = new Check();
     private String promise = "";
+    private int sentences;
     private Recipe probed;
     private String probe;
 
@@ -19,6 +20,7 @@ final class Edges {
     }
 
     void sentence(String words, Runnable test) {
+        sentences++;
         check.about(promise + ", \"" + words + "\"");
         int before = check.made();
         try {
@@ -32,6 +34,7 @@ final class Edges {
     }
 
     void end() {
+        System.out.print(sentences + " sentences, ");
         check.end();
     }
 

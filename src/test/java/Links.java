@@ -22,11 +22,15 @@ final class Links {
         return product.xor(product.shiftRight(29)).longValue();
     }
 
-    /** What has to stand before the multiplication so that mixing gives the link. */
+    /** What has to be mixed so that the multiplication gives the product. */
+    static long beforeProduct(long product) {
+        return unsigned(product).multiply(FACTOR.modInverse(TWO_TO_64)).mod(TWO_TO_64).longValue();
+    }
+
+    /** What has to be mixed so that mixing gives the link. */
     static long unmix(long link) {
         BigInteger whole = unsigned(link);
-        BigInteger product = whole.xor(whole.shiftRight(29)).xor(whole.shiftRight(58));
-        return product.multiply(FACTOR.modInverse(TWO_TO_64)).mod(TWO_TO_64).longValue();
+        return beforeProduct(whole.xor(whole.shiftRight(29)).xor(whole.shiftRight(58)).longValue());
     }
 
     private static BigInteger unsigned(long x) {
