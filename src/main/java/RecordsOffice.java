@@ -551,8 +551,8 @@ public final class RecordsOffice {
         }
 
         static int monthOf(int day) {
-            // With 366 days to each year the year is right or, for all days that can come up, one too low; with 31 to
-            // each month two years' months come out a fortnight too late at most: so is the month.
+            // Years of 366 days come out right or, for all days that can come up, one too low. So at most two years are
+            // left; their months are a fortnight shorter than 31 days each, so the month too is one too low at most.
             int month = day / 366 * 12;
             month += (day - firstOf(month)) / 31;
             return firstOf(month + 1) <= day ? month + 1 : month;
